@@ -487,7 +487,6 @@ public final class OccupancyMonitor {
             }
         }
 
-
         /** The channel in which a pulsed signal is active at a tick, or NONE. */
         private int pulsedChannel(int signal, int tick) {
             int ticks = tick - table.get(signal, PULSED_START);

@@ -6,6 +6,8 @@ public final class StateTests {
         undo();
         onlyUndoableCallsSave();
         undoRestoresAll();
+        undoReopensEvent();
+        undoOfSettings();
         undoLeavesText();
         digestOfNewObject();
         digestOfFullObject();
@@ -112,6 +114,38 @@ public final class StateTests {
             CHECKS.dueText("events of both", Checks.eventTable(x), Checks.eventTable(y));
             CHECKS.due("digest() of both", x.digest(), y.digest());
         }
+    }
+
+    private static void undoReopensEvent() {
+        OccupancyMonitor x = Checks.withPlan("0:1;");
+        x.addPulsed(0, 50, 0, 5, 10);
+        x.run(3);
+        x.run(4);
+        CHECKS.dueText("closed", Checks.eventTable(x), "0 1 4 50 0 -1 0;");
+        x.undo();
+        CHECKS.dueText("open after undo", Checks.eventTable(x), "0 1 3 50 1 -1 0;");
+        x.run(1);
+        CHECKS.dueText("goes on after undo", Checks.eventTable(x), "0 1 4 50 1 -1 0;");
+        x.undo();
+        x.undo();
+        CHECKS.due("events() of before", x.events(), 0);
+        x.run(1);
+        CHECKS.dueText("opened anew", Checks.eventTable(x), "0 1 1 50 1 -1 0;");
+    }
+
+    private static void undoOfSettings() {
+        OccupancyMonitor x = Checks.withPlan("0:1;");
+        long before = x.digest();
+        x.setHops(10, 6);
+        saves("setHops with another tolerance", before, x, 1);
+        x.setHops(11, 5);
+        saves("setHops with another gap", before, x, 1);
+        x.setLevels(11, 30);
+        saves("setLevels with another floor", before, x, 1);
+        x.setLevels(10, 31);
+        saves("setLevels with another threshold", before, x, 1);
+        x.setMask(7, 8, 99);
+        saves("setMask with another mask", before, x, 1);
     }
 
     private static void undoLeavesText() {
