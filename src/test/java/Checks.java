@@ -56,12 +56,21 @@ final class Checks {
         }
     }
 
-    /** Makes this the plan text and parses it. */
-    static int parse(OccupancyMonitor monitor, String text) {
+    int made() {
+        return made;
+    }
+
+    /** Makes this the plan text. */
+    static void type(OccupancyMonitor monitor, String text) {
         monitor.clearText();
         for (int index = 0; index < text.length(); index++) {
             monitor.append(text.charAt(index));
         }
+    }
+
+    /** Makes this the plan text and parses it. */
+    static int parse(OccupancyMonitor monitor, String text) {
+        type(monitor, text);
         return monitor.parsePlan();
     }
 
@@ -74,8 +83,10 @@ final class Checks {
     /** The plan as planByte writes it. */
     static String written(OccupancyMonitor monitor) {
         StringBuilder out = new StringBuilder();
-        for (int index = 0; index < 200 && monitor.planByte(index) != OccupancyMonitor.NONE; index++) {
-            out.append((char) monitor.planByte(index));
+        int sign = monitor.planByte(0);
+        while (sign != OccupancyMonitor.NONE && out.length() < 200) {
+            out.append((char) sign);
+            sign = monitor.planByte(out.length());
         }
         return out.toString();
     }

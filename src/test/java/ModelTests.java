@@ -2,8 +2,9 @@ import java.util.Random;
 
 /** Long runs of calls, drawn from fixed seeds, on OccupancyMonitor and on the plain model of the document. */
 public final class ModelTests {
-    private static final int RUNS = 150;
-    private static final int CALLS = 500;
+    private static final int RUNS = 400;
+    /** An object is used for 512 calls; the last turn of a run may make some 140 more. */
+    private static final int CALLS = 370;
     private static final Checks CHECKS = new Checks();
 
     private final Random random;
@@ -48,6 +49,11 @@ public final class ModelTests {
         CHECKS.dueDouble(name + "call " + calls + ", " + call, got, want);
     }
 
+    private void dueState(String call, Checks.Call made) {
+        calls += 3;
+        CHECKS.dueThrows(name + "call " + calls + ", " + call, x, Checks.STATE, made);
+    }
+
     /** From least to greatest, the two more often than those between. */
     private int from(int least, int greatest) {
         int draw = random.nextInt(10);
@@ -75,8 +81,7 @@ public final class ModelTests {
 
     private void pulsed(int channel, int level, int start, int on, int period) {
         if (model.signals() == 10) {
-            CHECKS.dueThrows(name + "addPulsed", x, Checks.STATE, () -> x.addPulsed(channel, level, start, on, period));
-            calls++;
+            dueState("addPulsed", () -> x.addPulsed(channel, level, start, on, period));
         } else {
             due("addPulsed", x.addPulsed(channel, level, start, on, period),
                     model.addSignal(0, channel, level, start, on, period));
@@ -85,8 +90,7 @@ public final class ModelTests {
 
     private void hopping(int first, int step, int hold, int level, int start) {
         if (model.signals() == 10) {
-            CHECKS.dueThrows(name + "addHopping", x, Checks.STATE, () -> x.addHopping(first, step, hold, level, start));
-            calls++;
+            dueState("addHopping", () -> x.addHopping(first, step, hold, level, start));
         } else {
             due("addHopping", x.addHopping(first, step, hold, level, start),
                     model.addSignal(1, first, step, hold, level, start));
@@ -133,20 +137,19 @@ public final class ModelTests {
         text.setLength(Math.min(text.length(), random.nextInt(6) == 0 ? random.nextInt(101) : 100));
         due("clearText()", x.clearText(), model.clearText());
         for (int index = 0; index < text.length(); index++) {
-            // Only a few of these count as calls, or a run would be all text.
-            CHECKS.due(name + "append", x.append(text.charAt(index)), model.append(text.charAt(index)));
+            due("append", x.append(text.charAt(index)), model.append(text.charAt(index)));
         }
         due("parsePlan() of '" + text + "'", x.parsePlan(), model.parsePlan());
         due("steps()", x.steps(), model.steps());
         for (int step = 0; step < model.steps(); step++) {
             int what = random.nextInt(3);
-            CHECKS.due(name + "step", x.step(step, what), model.step(step, what));
+            due("step", x.step(step, what), model.step(step, what));
         }
-        for (int index = 0; index < 105; index++) {
-            CHECKS.due(name + "planByte", x.planByte(index), model.planByte(index));
-        }
-        for (int channel = 0; channel < 32; channel++) {
-            CHECKS.due(name + "revisit(" + channel + ")", x.revisit(channel), model.revisit(channel));
+        for (int turn = 0; turn < 8; turn++) {
+            int index = from(0, 100);
+            int channel = from(0, 31);
+            due("planByte(" + index + ")", x.planByte(index), model.planByte(index));
+            due("revisit(" + channel + ")", x.revisit(channel), model.revisit(channel));
         }
     }
 
@@ -196,7 +199,7 @@ public final class ModelTests {
             refused = true;
         }
         if (refused) {
-            CHECKS.dueThrows(name + "undo()", x, Checks.STATE, () -> x.undo());
+            dueState("undo()", () -> x.undo());
         } else {
             due("undo()", x.undo(), want);
         }

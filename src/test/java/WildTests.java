@@ -18,7 +18,7 @@ public final class WildTests {
                 .filter(method -> java.lang.reflect.Modifier.isPublic(method.getModifiers()))
                 .sorted(Comparator.comparing(Method::getName))
                 .toArray(Method[]::new);
-        for (int seed = 0; seed < 100; seed++) {
+        for (int seed = 0; seed < 300; seed++) {
             play(methods, new Random(seed));
         }
         CHECKS.finish();
@@ -26,7 +26,7 @@ public final class WildTests {
 
     private static void play(Method[] methods, Random random) throws IllegalAccessException {
         OccupancyMonitor x = Checks.withPlan("0-31:1;0-5:2;");
-        for (int call = 0; call < 400; call++) {
+        for (int call = 0; call < 150; call++) {
             Method method = methods[random.nextInt(methods.length)];
             Object[] values = new Object[method.getParameterCount()];
             for (int index = 0; index < values.length; index++) {
