@@ -159,15 +159,8 @@ final class DetectorSentences {
 
     private void average() {
         s.at("Promise 19");
-        s.test("Returns the mean of the latest observed levels of a channel (of all, if there are fewer than 8).", () -> {
-            int[] want = {80, 40, 26, 20, 16, 13, 11, 10, 2, 2};
-            OccupancyMonitor x = Checks.withPlan("0:1;");
-            for (int count = 1; count <= want.length; count++) {
-                observe(x, count == 1 ? 80 : count == 9 ? 16 : 0);
-                s.due("average(0) of " + count, x.average(0), want[count - 1]);
-            }
-            s.unchanged("average(3)", BUSY, y -> y.average(3));
-        });
+        s.test("Returns the mean of the latest observed levels of a channel (of all, if there are fewer than 8).",
+                this::averageOfLatest);
         s.test("`channel`: 0 to 31", () -> {
             OccupancyMonitor x = Checks.withPlan("0:1;31:1;");
             x.addPulsed(0, 60, 0, 1, 1);
@@ -196,6 +189,16 @@ final class DetectorSentences {
         });
     }
 
+    private void averageOfLatest() {
+        int[] want = {80, 40, 26, 20, 16, 13, 11, 10, 2, 2};
+        OccupancyMonitor x = Checks.withPlan("0:1;");
+        for (int count = 1; count <= want.length; count++) {
+            observe(x, count == 1 ? 80 : count == 9 ? 16 : 0);
+            s.due("average(0) of " + count, x.average(0), want[count - 1]);
+        }
+        s.unchanged("average(3)", BUSY, y -> y.average(3));
+    }
+
     // ---- Promise 20
 
     private void occupancy() {
@@ -218,6 +221,8 @@ final class DetectorSentences {
                 + " double; 0.0 without observations.", () -> {
             s.dueDouble("without observations", FRESH.make().occupancy(0), 0.0);
             s.dueDouble("of a channel beside", observed(50).occupancy(1), 0.0);
+            s.dueDouble("of one observation, a hit", observed(31).occupancy(0), 1.0);
+            s.dueDouble("of one observation, no hit", observed(30).occupancy(0), 0.0);
             s.dueDouble("without hits", observed(10, 30).occupancy(0), 0.0);
             s.dueDouble("of hits alone", observed(31, 100).occupancy(0), 1.0);
             s.dueDouble("of 1 in 3", observed(10, 31, 10).occupancy(0), 1.0 / 3.0);
@@ -258,6 +263,7 @@ final class DetectorSentences {
     private void resetClears() {
         OccupancyMonitor x = Checks.withPlan("0-31:1;0:2;");
         x.setMask(0, 31, 35);
+        x.setHops(20, 9);
         x.setLevels(40, 30);
         x.run(2);
         x.setLevels(40, 39);
@@ -283,6 +289,6 @@ final class DetectorSentences {
         s.dueEvents("after a tick without a hit", x, "0 3 3 40 0 -1 0;");
         s.due("the threshold stays", x.setLevels(20, 39), 39);
         s.due("the mask stays", x.setMask(0, 0, 35), 35);
-        s.due("the gap stays", x.setHops(10, 5), 10);
+        s.due("the gap stays", x.setHops(20, 9), 20);
     }
 }

@@ -264,6 +264,28 @@ final class PlanSentences {
         dueError("001-2:3;", 2);
         dueError("1-002:3;", 4);
         dueError("1-2:003;", 6);
+        for (int number = 0; number <= 99; number++) {
+            everyNumber(number);
+        }
+    }
+
+    private void everyNumber(int number) {
+        if (number <= 31) {
+            duePlan(number + ":1;", 1, number + ":1;");
+            duePlan(number + "-31:1;", 1, number == 31 ? "31:1;" : number + "-31:1;");
+            duePlan("0-" + number + ":1;", 1, number == 0 ? "0:1;" : "0-" + number + ":1;");
+        } else {
+            dueError(number + ":1;", 0);
+            dueError("0-" + number + ":1;", 2);
+        }
+        if (number >= 1 && number <= 20) {
+            duePlan("5:" + number + ";", 1, "5:" + number + ";");
+        } else {
+            dueError("5:" + number + ";", 2);
+        }
+        if (number <= 9) {
+            duePlan("0" + number + ":1;", 1, number + ":1;");
+        }
     }
 
     private void spaces() {

@@ -146,7 +146,7 @@ final class Sentences {
 
     static void runTo(OccupancyMonitor x, int tick) {
         int now = x.run(0);
-        while (now < tick) {
+        for (int call = 0; call < 60 && now < tick; call++) {
             now = x.run(Math.min(2000, tick - now));
         }
     }
@@ -197,8 +197,9 @@ final class Sentences {
         for (int tick = 0; tick < 10; tick++) {
             out.append(x.run(1)).append(' ').append(x.presentStep()).append(' ').append(x.digest()).append(' ');
         }
-        out.append(attempt(x, y -> y.append(' '))).append(' ').append(x.parsePlan()).append(' ');
-        return out.append(Checks.written(x)).append(' ').append(x.digest()).toString();
+        out.append(x.parsePlan()).append(' ').append(Checks.written(x)).append(' ').append(x.digest());
+        out.append(' ').append(attempt(x, y -> y.append('x')));
+        return out.append(' ').append(x.parsePlan()).append(' ').append(x.clearText()).toString();
     }
 
     private static String past(OccupancyMonitor x) {

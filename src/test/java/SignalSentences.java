@@ -452,8 +452,11 @@ final class SignalSentences {
             x.run(1);
             s.due("hits at the threshold", x.detector(0, 1), 0);
             x.setLevels(20, 19);
+            s.due("hits before the next tick", x.detector(0, 1), 0);
             x.run(1);
             s.due("hits above the threshold", x.detector(0, 1), 1);
+            x.setLevels(0, 100);
+            s.dueEvents("before the next tick", x, "0 2 2 20 1 -1 0;");
         });
         s.test("Undoable.", () -> {
             s.saves("setLevels", ROOMY, x -> x.setLevels(99, 98));
@@ -520,6 +523,13 @@ final class SignalSentences {
         s.test("Sets the mask of a range of channels.", () -> {
             s.dueText("violations behind setMask(5, 7, 49)", violated(5, 7, 49), "5 6 7");
             s.dueText("violations behind setMask(5, 7, 50)", violated(5, 7, 50), "");
+            OccupancyMonitor x = Checks.withPlan("0:1;");
+            x.setMask(0, 0, 9);
+            x.run(3);
+            x.setMask(0, 0, 10);
+            s.due("violations of the mask before", x.detector(0, 3), 3);
+            x.run(1);
+            s.due("violations of both masks", x.detector(0, 3), 3);
         });
         s.test("Undoable.", () -> {
             s.saves("setMask", ROOMY, x -> x.setMask(0, 31, 5));

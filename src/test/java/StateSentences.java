@@ -347,16 +347,26 @@ final class StateSentences {
         s.test("Returns the hash, with the overflow of long arithmetic ignored.", () -> {
             s.accepted("digest() of a busy object", BUSY, x -> x.digest(), busyHash());
             s.due("digest() of a full object", fullObject().digest(), fullHash());
+            OccupancyMonitor x = new OccupancyMonitor();
+            for (int call = 0; call < 511; call++) {
+                x.run(2000);
+            }
+            s.due("digest() at the greatest tick", x.digest(), quietHash(1022000, 4));
         });
     }
 
     private static long emptyHash() {
+        return quietHash(0, 0);
+    }
+
+    /** The hash of an object on which only run was called. */
+    private static long quietHash(int tick, int saved) {
         Hash hash = new Hash();
-        hash.add(0, 0, 10, 30, 10, 5, 0, 0, -1);
+        hash.add(0, tick, 10, 30, 10, 5, 0, 0, -1);
         for (int channel = 0; channel < 32; channel++) {
             hash.add(100, 0, 0, -1, 0, -1);
         }
-        hash.add(0, 0);
+        hash.add(0, saved);
         return hash.value();
     }
 
