@@ -74,8 +74,9 @@ public final class OccupancyMonitor {
     private static final int SYNTAX_ERROR = -10;
     private static final long FIRST_HASH = 2851;
 
-    private final Bytes text;
     private final PlanParser parser;
+    /** The plan text, which the parser reads. */
+    private final Bytes text;
     /** The present plan as a text, written anew whenever it is wanted. */
     private final Bytes planText;
     private final State now;
@@ -85,8 +86,8 @@ public final class OccupancyMonitor {
     private final int[] levels;
 
     public OccupancyMonitor() {
-        text = new Bytes(MAX_TEXT);
-        parser = new PlanParser(text);
+        parser = new PlanParser();
+        text = parser.text;
         planText = new Bytes(MAX_STEPS * MAX_STEP_BYTES);
         now = new State();
         history = new History();
@@ -955,14 +956,10 @@ public final class OccupancyMonitor {
 
     /** Reads the text into a draft. Only the first error counts, so that reading may go on behind it. */
     private static final class PlanParser {
-        private final Bytes text;
+        private final Bytes text = new Bytes(MAX_TEXT);
         private final Plan draft = new Plan();
         private int position;
         private int error;
-
-        PlanParser(Bytes text) {
-            this.text = text;
-        }
 
         /** Returns the syntax error position, or NONE if the draft is the plan. */
         int parse() {
